@@ -336,15 +336,13 @@ public final class Linkwitness {
 
     public int since(int client) throws IndexOutOfBoundsException, NoSuchElementException {
         needPlace(client, CLIENTS);
-        int place = 0;
-        boolean isFound = false;
-        while (place < releaseCount && !isFound) {
+        int found = NONE;
+        for (int place = 0; place < releaseCount && found == NONE; place++) {
             trialRun.follow(clients[client], released[place]);
-            isFound = trialRun.broke == NO;
-            place += isFound ? 0 : 1;
+            found = trialRun.broke == NO ? place : NONE;
         }
-        needElement(isFound);
-        return place;
+        needElement(found != NONE);
+        return found;
     }
 
     // ---- figures ----
@@ -820,31 +818,28 @@ public final class Linkwitness {
                 firstIn[place] = NONE;
                 seenIn[place] = NONE;
             }
-            int passed = 0;
-            int at = has(there, type) ? type : NONE;
-            boolean isClass = has(classes, type);
-            for (int steps = 0; steps < TYPES && at != NONE && !has(passed, at); steps++) {
-                if (isClass && !has(classes, at)) {
-                    return;
-                }
-                passed |= 1 << at;
-                for (int member = 0; member < MEMBERS; member++) {
-                    noteMethod(library.methods, type * MEMBERS + member, at, member);
-                }
-                at = isClass ? library.superclass[at] : NONE;
+            if (has(there, type)) {
+                noteMethods(library.methods, type, type);
+            }
+            int at = has(classes, type) ? library.superclass[type] : NONE;
+            // What would come again in the chain has been noted, so that the count of types ends it soon enough.
+            for (int steps = 1; steps < TYPES && at != NONE && has(classes, at); steps++) {
+                noteMethods(library.methods, type, at);
+                at = library.superclass[at];
             }
         }
 
-        private void noteMethod(Members methods, int place, int at, int member) {
-            char sight = methods.sight[at * MEMBERS + member];
-            if (sight == NO) {
-                return;
-            }
-            if (firstIn[place] == NONE) {
-                firstIn[place] = at;
-            }
-            if (seenIn[place] == NONE && sight != 'v' && methods.kind[at * MEMBERS + member] != 's') {
-                seenIn[place] = at;
+        private void noteMethods(Members methods, int type, int at) {
+            for (int member = 0; member < MEMBERS; member++) {
+                int place = type * MEMBERS + member;
+                char sight = methods.sight[at * MEMBERS + member];
+                if (firstIn[place] == NONE && sight != NO) {
+                    firstIn[place] = at;
+                }
+                boolean isSeen = sight != NO && sight != 'v' && methods.kind[at * MEMBERS + member] != 's';
+                if (seenIn[place] == NONE && isSeen) {
+                    seenIn[place] = at;
+                }
             }
         }
 
@@ -872,7 +867,7 @@ public final class Linkwitness {
         /** Those of some interfaces that no other one of these is under. */
         private int nearest(int candidates) {
             int left = candidates;
-            for (int one = 0; one < TYPES; one++) {
+            for (int one = 0; one < TYPES && candidates != 0; one++) {
                 int bit = 1 << one;
                 if ((candidates & bit) != 0) {
                     left &= ~(aboveOf[one] & ~bit);
@@ -882,7 +877,7 @@ public final class Linkwitness {
         }
 
         private int lowest(int mask) {
-            for (int type = 0; type < TYPES; type++) {
+            for (int type = 0; type < TYPES && mask != 0; type++) {
                 if ((mask >> type & 1) == 1) {
                     return type;
                 }
@@ -1053,13 +1048,9 @@ public final class Linkwitness {
         }
 
         private static boolean standsWrongly(Library library, int type) {
-            int passed = 1 << type;
             int at = library.superclass[type];
-            for (int steps = 0; steps < TYPES && at != NONE; steps++) {
-                if (has(passed, at) || library.kind[at] != 'c') {
-                    return false;
-                }
-                passed |= 1 << at;
+            // The type is not above itself, and what comes again further on has been asked.
+            for (int steps = 1; steps < TYPES && at != NONE && library.kind[at] == 'c'; steps++) {
                 for (int member = 0; member < MEMBERS; member++) {
                     if (clashes(library.methods, type * MEMBERS + member, at * MEMBERS + member)) {
                         return true;
@@ -1442,12 +1433,14 @@ public final class Linkwitness {
             int lastType = trial.isThere ? X : X - 1;
             // An act with an object of the library's goes by X as without it: the clients of size 1 were that.
             int firstObject = trial.isThere && !isBroken ? X : 0;
-            int ownMember = trial.member == NONE ? 0 : 1 << trial.member;
             for (int kind = 0; kind < KINDS.length; kind++) {
-                int usable = old.links.usable[kind] | ownMember;
+                int usable = worthTrying(kind, isBroken);
+                if (usable == 0 && hasMember(kind)) {
+                    continue;
+                }
                 int typeEnd = hasType(kind) ? lastType : NONE;
                 int memberEnd = hasMember(kind) ? MEMBERS - 1 : NONE;
-                int objectEnd = kind == CALL_SUPER && !trial.isThere ? NONE - 1 : hasObject(kind) ? lastType : NONE;
+                int objectEnd = hasObject(kind) ? lastType : NONE;
                 for (int type = hasType(kind) ? 0 : NONE; type <= typeEnd; type++) {
                     for (int member = hasMember(kind) ? 0 : NONE; member <= memberEnd; member++) {
                         if (member != NONE && !has(usable, member)) {
@@ -1469,9 +1462,26 @@ public final class Linkwitness {
             }
         }
 
+        /** The members for which an act of a kind may be the least one, by the class X that is tried. */
+        private int worthTrying(int kind, boolean isBroken) {
+            int known = old.links.usable[kind];
+            if (kind == CALL_SUPER && !trial.isThere) {
+                return 0;
+            }
+            if (trial.member == NONE) {
+                return known;
+            }
+            int own = 1 << trial.member;
+            if (isBroken) {
+                return known | own;
+            }
+            // All other acts go by X as without its method: the clients of the size below were that.
+            return kind == CALL_CLASS || kind == CALL_INTERFACE ? own : 0;
+        }
+
         private void keep(int code, int kind, int type, int member, int object) {
             leastCode = code;
-            least.clear();
+            least.count = 0;
             least.own.become(trial);
             least.add(kind, type, member, object);
         }

@@ -748,6 +748,10 @@ public final class PromisesTest {
         due("put one that is not static", run("", "p A c0"), "I");
         x.type(0, 'E', '-');
         due("not there", run("", "g E a0"), "C");
+        add(0, "class C < B : E", "interface E : D");
+        due("from far above", run("", "g C a0", "g C b0", "g E b0"), "6 8 8");
+        add(0, "D#a0 p F 12");
+        due("an interface's interface ahead of the superclass", run("", "g C a0", "g B a0"), "12 6");
         x.field(0, 'D', 'a', 0, 'p', 'F', 11);
         due("own ahead of the interface", run("", "g A a0"), "6");
         due("the interface ahead of the superclass", run("A:D:", "g X a0"), "11");
@@ -965,6 +969,24 @@ public final class PromisesTest {
         due("nearer, in a class that X is not under", least(), "3 A---- sBa0-");
         add(1, "B.a0 p s 1");
         due("nearer for all", least(), "fits");
+        lib(0, "interface A", "A.a0 p a 1");
+        lib(1, "interface A");
+        due("X's own, by an interface", least(), "4 -A-a0 iAa0X");
+        lib(0, "abstract class A", "A.a0 p a 1");
+        lib(1, "abstract class A");
+        due("X's own, by a class", least(), "4 A--a0 cAa0X");
+        lib(0, "abstract class A", "interface B : C", "interface C", "B.b1 p s 1", "A#c0 o f 2", "A#c1 o F 3", "C#b0 p F 4");
+        lib(1, "abstract class A", "interface B : C", "interface C", "B.b1 p s 1", "A#c0 o f 2", "A#c1 k F 3", "C#b0 p F 4");
+        due("static final", least(), "3 A---- gAc1-");
+        add(1, "A#c1 p F 3", "A#c0 k f 2");
+        due("final", least(), "3 A---- GAc0X");
+        add(1, "A#c0 p f 2", "interface C", "C#b1 p F 4");
+        due("of an interface above", least(), "1 none gBb0-");
+        add(0, "C#b1 p F 4", "C#b0 - F 0", "A#b1 o s 5");
+        add(1, "A#b1 o s 5");
+        due("beside it", least(), "fits");
+        add(1, "A#b1 o n 5");
+        due("static by a class", least(), "3 A---- gAb1-");
     }
 
     private static void promise25() {
