@@ -847,11 +847,11 @@ public final class Linkwitness {
         void deriveChoices(Library library, int row) {
             for (int member = 0; member < MEMBERS; member++) {
                 int place = row * MEMBERS + member;
-                int nearest = nearest(instanceIn[member] & aboveOf[row]);
-                int bodied = nearest & bodyIn[member];
+                int near = nearest(instanceIn[member] & aboveOf[row]);
+                int bodied = near & bodyIn[member];
                 resolvedIn[place] = firstIn[place];
                 if (firstIn[place] == NONE) {
-                    resolvedIn[place] = lowest(Integer.bitCount(bodied) == 1 ? bodied : nearest);
+                    resolvedIn[place] = lowest(Integer.bitCount(bodied) == 1 ? bodied : near);
                 }
                 int seen = seenIn[place];
                 if (seen != NONE) {
@@ -1134,9 +1134,9 @@ public final class Linkwitness {
             if (!own.isThere) {
                 return NO;
             }
-            char fault = own.superclass == NONE ? NO : superclassFault(own.superclass);
+            char fault = own.superclass == NONE ? NO : aboveFault(own.superclass, false);
             for (int type = 0; type < TYPES && fault == NO; type++) {
-                fault = has(own.interfaces, type) ? interfaceFault(type) : NO;
+                fault = has(own.interfaces, type) ? aboveFault(type, true) : NO;
             }
             if (fault == NO && own.member != NONE && own.superclass != NONE && isBarred(own.superclass, own.member)) {
                 fault = 'V';
@@ -1153,21 +1153,12 @@ public final class Linkwitness {
             return (superclass == NONE || has(links.extendable, superclass)) && (interfaces & ~links.implementable) == 0;
         }
 
-        private char superclassFault(int type) {
+        private char aboveFault(int type, boolean asInterface) {
             if (library.kind[type] == NO) {
                 return 'C';
             }
-            if (library.kind[type] == 'i' || library.isFinal[type]) {
-                return 'I';
-            }
-            return library.isOpen[type] ? NO : 'L';
-        }
-
-        private char interfaceFault(int type) {
-            if (library.kind[type] == NO) {
-                return 'C';
-            }
-            if (library.kind[type] == 'c') {
+            boolean isWrong = asInterface ? library.kind[type] == 'c' : library.kind[type] == 'i' || library.isFinal[type];
+            if (isWrong) {
                 return 'I';
             }
             return library.isOpen[type] ? NO : 'L';

@@ -1004,19 +1004,32 @@ public final class ModelTest {
     }
 
     static int library() {
-        return chance(60) ? (chance(2) ? -1 : 4) : random(4);
+        return chance(60) ? wildNumber(-1, 4) : random(4);
+    }
+
+    static int wildNumber(int below, int above) {
+        switch (random(6)) {
+            case 0:
+                return Integer.MIN_VALUE;
+            case 1:
+                return Integer.MAX_VALUE;
+            case 2: case 3:
+                return below;
+            default:
+                return above;
+        }
     }
 
     static char typeName() {
-        return chance(60) ? pick("@FXa-") : pick("ABCDE");
+        return chance(60) ? pick("@FXa-\u0000\uffff") : pick("ABCDE");
     }
 
     static char memberName() {
-        return chance(60) ? pick("`d-A") : pick("aab" + (chance(3) ? "c" : ""));
+        return chance(60) ? pick("`d-A\u0000\uffff") : pick("aab" + (chance(3) ? "c" : ""));
     }
 
     static int shape() {
-        return chance(60) ? (chance(2) ? -1 : 2) : chance(4) ? 1 : 0;
+        return chance(60) ? wildNumber(-1, 2) : chance(4) ? 1 : 0;
     }
 
     static void libraryCall(Linkwitness x, Model m, List<String> log) {
@@ -1055,7 +1068,7 @@ public final class ModelTest {
             case 5: case 6: case 7: {
                 char v = chance(40) ? pick("xP") : pick("ppppokv-");
                 char k = chance(40) ? pick("Fx-") : pick("nnsaf");
-                int c = chance(40) ? (chance(2) ? -1 : 100) : random(100);
+                int c = chance(40) ? wildNumber(-1, 100) : random(100);
                 same("method(" + l + "," + t + "," + n + "," + s + "," + v + "," + k + "," + c + ")",
                     () -> (long) x.method(l, t, n, s, v, k, c), () -> m.put(false, l, t, n, s, v, k, c), log);
                 break;
@@ -1063,7 +1076,7 @@ public final class ModelTest {
             case 8: {
                 char v = chance(40) ? pick("xP") : pick("pppokv-");
                 char k = chance(40) ? pick("ax-") : pick("nsfF");
-                int c = chance(40) ? (chance(2) ? -1 : 100) : random(100);
+                int c = chance(40) ? wildNumber(-1, 100) : random(100);
                 same("field(" + l + "," + t + "," + n + "," + s + "," + v + "," + k + "," + c + ")",
                     () -> (long) x.field(l, t, n, s, v, k, c), () -> m.put(true, l, t, n, s, v, k, c), log);
                 break;
@@ -1132,7 +1145,7 @@ public final class ModelTest {
                 break;
             }
             case 9: {
-                int i = random(11) - 2;
+                int i = chance(20) ? wildNumber(-2, 8) : random(11) - 2;
                 char w = chance(30) ? pick("xA") : pick("ktnsoij");
                 same("tells(" + c + "," + i + "," + w + ")", () -> (long) x.tells(c, i, w), () -> m.tells(c, i, w), log);
                 break;
@@ -1159,7 +1172,7 @@ public final class ModelTest {
 
     static void releaseCall(Linkwitness x, Model m, List<String> log) {
         int l = library();
-        int r = random(10) - 1;
+        int r = chance(20) ? wildNumber(-1, 8) : random(10) - 1;
         switch (random(8)) {
             case 0: case 1:
                 same("release(" + l + ")", () -> (long) x.release(l), () -> m.release(l), log);
@@ -1385,7 +1398,7 @@ public final class ModelTest {
     }
 
     public static void main(String[] args) {
-        int rounds = args.length > 0 ? Integer.parseInt(args[0]) : 150;
+        int rounds = args.length > 0 ? Integer.parseInt(args[0]) : 300;
         seed = args.length > 1 ? Long.parseLong(args[1]) : seed;
         for (int i = 0; i < rounds && wrong < 5; i++) {
             wildRound();
