@@ -928,6 +928,9 @@ public final class PromisesTest {
         lib(0, "class A : B", "interface B", "B.a0 p n 1");
         lib(1, "class A", "interface B", "B.a0 p n 1", "A.a0 p n 1");
         due("i where c goes", least(), "1 none iBa0A");
+        lib(0, "class A", "class B", "A#a0 p s 1", "B#b1 p s 2", "B#c0 p n 3");
+        lib(1, "class A", "class B", "A#a0 p F 1", "B#b1 p s 2", "B#c0 p n 3");
+        due("p beside another", least(), "1 none pAa0-");
     }
 
     private static void promise25Own() {
