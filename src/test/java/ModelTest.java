@@ -1,5 +1,6 @@
 import java.util.ArrayList;
 import java.util.List;
+import java.util.Map;
 import java.util.NoSuchElementException;
 import java.util.TreeMap;
 import java.util.TreeSet;
@@ -25,6 +26,11 @@ public final class ModelTest {
 
         boolean isStatic() {
             return kind == 's' || kind == 'F';
+        }
+
+        @Override
+        public String toString() {
+            return sight + " " + kind + " " + number;
         }
     }
 
@@ -54,6 +60,12 @@ public final class ModelTest {
             other.methods = new TreeMap<>(methods);
             other.fields = new TreeMap<>(fields);
             return other;
+        }
+
+        @Override
+        public String toString() {
+            return kind + (open ? "" : " closed") + (isAbstract ? " abstract" : "") + (isFinal ? " final" : "") + " maker " + maker
+                + " under " + superclass + interfaces + " methods " + methods + " fields " + fields;
         }
     }
 
@@ -1032,7 +1044,7 @@ public final class ModelTest {
         return chance(60) ? wildNumber(-1, 2) : chance(4) ? 1 : 0;
     }
 
-    static void libraryCall(Linkwitness x, Model m, List<String> log) {
+    static void libraryCall(House x, Model m, List<String> log) {
         int l = library();
         char t = typeName();
         char n = memberName();
@@ -1104,7 +1116,7 @@ public final class ModelTest {
         }
     }
 
-    static void clientCall(Linkwitness x, Model m, List<String> log) {
+    static void clientCall(House x, Model m, List<String> log) {
         int c = library();
         char t = chance(40) ? pick("@F-a") : pick("ABCDEXX");
         char n = memberName();
@@ -1158,7 +1170,7 @@ public final class ModelTest {
         }
     }
 
-    static void runOnBoth(Linkwitness x, Model m, int c, int l, List<String> log) {
+    static void runOnBoth(House x, Model m, int c, int l, List<String> log) {
         same("run(" + c + "," + l + ")", () -> (long) x.run(c, l), () -> m.run(c, l), log);
         Object fault = same("fault()", () -> (long) x.fault(), () -> m.fault(), log);
         if (fault instanceof Long) {
@@ -1170,7 +1182,7 @@ public final class ModelTest {
         }
     }
 
-    static void releaseCall(Linkwitness x, Model m, List<String> log) {
+    static void releaseCall(House x, Model m, List<String> log) {
         int l = library();
         int r = chance(20) ? wildNumber(-1, 8) : random(10) - 1;
         switch (random(8)) {
@@ -1204,7 +1216,7 @@ public final class ModelTest {
         }
     }
 
-    static void lookCall(Linkwitness x, Model m, List<String> log) {
+    static void lookCall(House x, Model m, List<String> log) {
         int old = library();
         int later = library();
         int c = library();
@@ -1224,7 +1236,7 @@ public final class ModelTest {
         }
     }
 
-    static void tellAll(Linkwitness x, Model m, int c, List<String> log) {
+    static void tellAll(House x, Model m, int c, List<String> log) {
         for (char w : "tijnsktnso".toCharArray()) {
             same("tells(" + c + ",-1," + w + ")", () -> (long) x.tells(c, -1, w), () -> m.tells(c, -1, w), log);
             same("tells(" + c + ",0," + w + ")", () -> (long) x.tells(c, 0, w), () -> m.tells(c, 0, w), log);
@@ -1233,7 +1245,7 @@ public final class ModelTest {
 
     /** Any calls in any order. */
     static void wildRound() {
-        Linkwitness x = new Linkwitness();
+        House x = new House();
         Model m = new Model();
         List<String> log = new ArrayList<>();
         for (int i = 0; i < 12; i++) {
@@ -1242,7 +1254,7 @@ public final class ModelTest {
             char k = pick("cci");
             same("type(" + l + "," + t + "," + k + ")", () -> (long) x.type(l, t, k), () -> m.type(l, t, k), log);
         }
-        for (int i = 0; i < 150; i++) {
+        for (int i = 0; i < 150 && x.calls() < House.CALLS - 60; i++) {
             int which = random(100);
             if (which < 55) {
                 libraryCall(x, m, log);
@@ -1259,7 +1271,7 @@ public final class ModelTest {
 
     // ---- rounds of lawful libraries, and small changes of them ----
 
-    static void set(Linkwitness x, Model m, List<String> log, int l, char t) {
+    static void set(House x, Model m, List<String> log, int l, char t) {
         char n = pick("aab");
         int s = chance(5) ? 1 : 0;
         int c = random(100);
@@ -1314,9 +1326,47 @@ public final class ModelTest {
         }
     }
 
+    /** Goes on with a new object that has the same first two libraries. */
+    static void goOn(House x, Model m, List<String> log) {
+        x.again();
+        log.clear();
+        for (int l = 0; l < 2; l++) {
+            for (Map.Entry<Character, Type> entry : m.libs[l].types.entrySet()) {
+                write(x, l, entry.getKey(), entry.getValue(), log);
+            }
+        }
+        same("checksum()", () -> x.checksum(), () -> m.checksum(), log);
+    }
+
+    static void write(House x, int l, char t, Type type, List<String> log) {
+        x.type(l, t, type.kind);
+        x.flag(l, t, 'o', type.open);
+        x.flag(l, t, 'a', type.isAbstract);
+        x.flag(l, t, 'f', type.isFinal);
+        x.above(l, t, type.superclass);
+        x.maker(l, t, type.maker);
+        for (char other : type.interfaces) {
+            x.under(l, t, other, true);
+        }
+        for (String name : MEMBERS) {
+            Member method = type.methods.get(name);
+            if (method != null) {
+                x.method(l, t, name.charAt(0), name.charAt(1) - '0', method.sight, method.kind, method.number);
+            }
+            Member field = type.fields.get(name);
+            if (field != null) {
+                x.field(l, t, name.charAt(0), name.charAt(1) - '0', field.sight, field.kind, field.number);
+            }
+        }
+        log.add("library " + l + ": " + t + " " + type);
+    }
+
     /** Changes a library some times, keeping only the changes by which it stays lawful. */
-    static void changeLawfully(Linkwitness x, Model m, List<String> log, int l, int times) {
+    static void changeLawfully(House x, Model m, List<String> log, int l, int times) {
         for (int i = 0; i < times; i++) {
+            if (x.calls() > House.CALLS - 10) {
+                goOn(x, m, log);
+            }
             Lib before = m.libs[l].copy();
             x.copy(l, 3);
             log.add("copy(" + l + ",3)");
@@ -1331,7 +1381,7 @@ public final class ModelTest {
     }
 
     static void lawfulRound() {
-        Linkwitness x = new Linkwitness();
+        House x = new House();
         Model m = new Model();
         List<String> log = new ArrayList<>();
         String kinds = chance(2) ? "cccii" : chance(2) ? "ciiic" : chance(2) ? "icicc" : "iiccc";
@@ -1341,6 +1391,7 @@ public final class ModelTest {
             same("type(0," + t + "," + k + ")", () -> (long) x.type(0, t, k), () -> m.type(0, t, k), log);
         }
         changeLawfully(x, m, log, 0, 30 + random(150));
+        goOn(x, m, log);
         for (char t : "ABCDE".toCharArray()) {
             for (char n : "abc".toCharArray()) {
                 int s = random(2);
@@ -1350,6 +1401,19 @@ public final class ModelTest {
         }
         same("copy(0,1)", () -> (long) x.copy(0, 1), () -> m.copy(0, 1), log);
         changeLawfully(x, m, log, 1, 1 + random(3));
+        lookBothWays(x, m, log);
+        x.copy(0, 2);
+        x.copy(0, 3);
+        m.copy(0, 2);
+        m.copy(0, 3);
+        for (int i = 0; i < 12; i++) {
+            busyClient(x, m, log);
+        }
+        same("isSound()", () -> x.isSound() ? 1L : 0L, () -> 1L, log);
+        same("checksum()", () -> x.checksum(), () -> m.checksum(), log);
+    }
+
+    static void lookBothWays(House x, Model m, List<String> log) {
         for (int i = 0; i < 2; i++) {
             int old = i;
             int later = 1 - i;
@@ -1364,18 +1428,9 @@ public final class ModelTest {
             runOnBoth(x, m, 0, old, log);
             runOnBoth(x, m, 0, later, log);
         }
-        x.copy(0, 2);
-        x.copy(0, 3);
-        m.copy(0, 2);
-        m.copy(0, 3);
-        for (int i = 0; i < 12; i++) {
-            busyClient(x, m, log);
-        }
-        same("isSound()", () -> x.isSound() ? 1L : 0L, () -> 1L, log);
-        same("checksum()", () -> x.checksum(), () -> m.checksum(), log);
     }
 
-    static void busyClient(Linkwitness x, Model m, List<String> log) {
+    static void busyClient(House x, Model m, List<String> log) {
         same("wipe(1)", () -> (long) x.wipe(1), () -> m.wipe(1), log);
         boolean has = !chance(4);
         same("own(1," + has + ")", () -> x.own(1, has) ? 1L : 0L, () -> m.own(1, has), log);
@@ -1397,12 +1452,66 @@ public final class ModelTest {
         runOnBoth(x, m, 1, 0, log);
     }
 
+    // ---- rounds near the libraries that only a class X with a superclass and two interfaces tells apart ----
+
+    static Type typed(char kind, Member method, String interfaces) {
+        Type type = new Type(kind);
+        if (method != null) {
+            type.methods.put("a0", method);
+        }
+        for (char one : interfaces.toCharArray()) {
+            type.interfaces.add(one);
+        }
+        return type;
+    }
+
+    /** The types stand for the letters of a row: a class, the two interfaces that it has, and one below each of these. */
+    static Lib hardLib(String row, boolean isLater) {
+        Lib lib = new Lib();
+        Member body = new Member('p', 'n', 1);
+        Member none = new Member('p', 'a', 2);
+        lib.types.put(row.charAt(0), typed('c', null, row.substring(1, 3)));
+        lib.types.get(row.charAt(0)).isAbstract = true;
+        lib.types.put(row.charAt(1), typed('i', body, ""));
+        lib.types.put(row.charAt(2), typed('i', body, ""));
+        lib.types.get(row.charAt(2)).open = false;
+        lib.types.put(row.charAt(3), typed('i', none, row.substring(1, 2)));
+        lib.types.put(row.charAt(4), typed('i', isLater ? none : null, isLater ? row.substring(2, 3) : ""));
+        return lib;
+    }
+
+    static String shuffled() {
+        StringBuilder row = new StringBuilder("ABCDE");
+        for (int i = 4; i > 0; i--) {
+            int j = random(i + 1);
+            char one = row.charAt(i);
+            row.setCharAt(i, row.charAt(j));
+            row.setCharAt(j, one);
+        }
+        return row.toString();
+    }
+
+    static void hardRound() {
+        House x = new House();
+        Model m = new Model();
+        List<String> log = new ArrayList<>();
+        String row = shuffled();
+        m.libs[0] = hardLib(row, false);
+        m.libs[1] = hardLib(row, true);
+        goOn(x, m, log);
+        changeLawfully(x, m, log, 0, random(4));
+        changeLawfully(x, m, log, 1, random(4));
+        lookBothWays(x, m, log);
+        same("isSound()", () -> x.isSound() ? 1L : 0L, () -> 1L, log);
+    }
+
     public static void main(String[] args) {
         int rounds = args.length > 0 ? Integer.parseInt(args[0]) : 300;
         seed = args.length > 1 ? Long.parseLong(args[1]) : seed;
         for (int i = 0; i < rounds && wrong < 5; i++) {
             wildRound();
             lawfulRound();
+            hardRound();
         }
         System.out.println("ModelTest: " + compared + " answers, " + witnessed + " least clients by size "
             + java.util.Arrays.toString(sizes) + ", " + fitted + " fit, " + wrong + " wrong");
