@@ -305,13 +305,9 @@ public final class Linkwitness {
         int place = releaseCount;
         released[place].become(libraries[library]);
         released[place].law();
-        for (int which = 0; which < NUMBERS; which++) {
-            numbers[place * NUMBERS + which] = 0;
-        }
         int step = stepOf(place);
-        for (int which = 0; which <= step; which++) {
-            int former = place == 0 ? 0 : numbers[(place - 1) * NUMBERS + which];
-            numbers[place * NUMBERS + which] = which == step ? former + 1 : former;
+        for (int which = 0; which < NUMBERS; which++) {
+            numbers[place * NUMBERS + which] = numberDue(place, which, step);
         }
         releaseCount++;
         return releaseCount;
@@ -425,9 +421,7 @@ public final class Linkwitness {
         for (int place = 0; place < releaseCount; place++) {
             int step = stepOf(place);
             for (int which = 0; which < NUMBERS; which++) {
-                int former = place == 0 ? 0 : numbers[(place - 1) * NUMBERS + which];
-                int due = which < step ? former : which == step ? former + 1 : 0;
-                if (numbers[place * NUMBERS + which] != due) {
+                if (numbers[place * NUMBERS + which] != numberDue(place, which, step)) {
                     return false;
                 }
             }
@@ -444,6 +438,11 @@ public final class Linkwitness {
             return 0;
         }
         return looker.find(released[place], released[place - 1]) != 0 ? 1 : 2;
+    }
+
+    private int numberDue(int place, int which, int step) {
+        int former = place == 0 ? 0 : numbers[(place - 1) * NUMBERS + which];
+        return which < step ? former : which == step ? former + 1 : 0;
     }
 
     // ---- what a call needs ----
@@ -1459,15 +1458,11 @@ public final class Linkwitness {
             if (kind == CALL_SUPER && !trial.isThere) {
                 return 0;
             }
-            if (trial.member == NONE) {
+            if (trial.member == NONE || isBroken) {
                 return known;
             }
-            int own = 1 << trial.member;
-            if (isBroken) {
-                return known | own;
-            }
             // All other acts go by X as without its method: the clients of the size below were that.
-            return kind == CALL_CLASS || kind == CALL_INTERFACE ? own : 0;
+            return kind == CALL_CLASS || kind == CALL_INTERFACE ? 1 << trial.member : 0;
         }
 
         private void keep(int code, int kind, int type, int member, int object) {
