@@ -151,6 +151,10 @@ public final class LinksTest extends HouseTest {
             due("by an object", run("", "i " + high + " a0 " + low), "2");
             due("by X", run(":" + middle + ":", "i " + high + " a0 X", "c X a0 X"), "2 2");
             due("by X above both", run(":" + middle + high + ":", "i " + high + " a0 X", "c X a0 X"), "2 2");
+            add(0, high + ".a0 p n 1");
+            due("the nearer one of two that tell", x.selected(0, low, 'a', 0), middle);
+            due("resolved to it alone", x.resolved(0, low, 'a', 0), middle);
+            due("by X above two that tell", run(":" + middle + high + ":", "i " + high + " a0 X", "c X a0 X"), "2 2");
         }
     }
 
@@ -260,6 +264,8 @@ public final class LinksTest extends HouseTest {
         for (int library = 0; library < 2; library++) {
             client(3, "A::", "s A a0");
             due("goes by library " + library, x.run(3, library), 1);
+            due("its size behind it", x.witness(0, 1, 2), 1);
+            due("goes again by library " + library, x.run(3, library), 1);
             due("least behind it", least(), "1 none sAa0-");
             due("nor back", x.fits(1, 0), true);
             client(3, "B::");
