@@ -190,6 +190,42 @@ public final class LinksTest extends HouseTest {
         }
     }
 
+    private static void chainEndsAtInterface() {
+        part("the chain ends at an interface, which is above all the same");
+        String[] two = {"class A < B : D", "class B < C", "interface C", "interface D"};
+        law(101, two);
+        law(10, join(two, "C.a0 p n 1", "D.a0 p n 1"));
+        law(101, join(two, "C.a0 p n 1", "D.a0 p a 1"));
+        law(10, join(two, "C.a0 p a 1"));
+        law(101, join(two, "C.a0 p s 1", "A.a0 p n 1", "D.a0 p n 1"));
+        law(9, join(two, "C.a0 p n 1", "A.a0 o n 1"));
+    }
+
+    private static String[] join(String[] lines, String... more) {
+        String[] all = java.util.Arrays.copyOf(lines, lines.length + more.length);
+        System.arraycopy(more, 0, all, lines.length, more.length);
+        return all;
+    }
+
+    private static void faultsOfLoading() {
+        part("the faults of loading X, in their order");
+        lib(0, "class A", "A.a0 p f 1", "class B", "interface C", "closed interface D", "final closed class E", "E.a0 p f 1");
+        due("V alone", run("A::a0", "n X"), "V");
+        due("V behind a good interface", run("A:C:a0", "n X"), "V");
+        due("I by an interface ahead of V", run("A:B:a0", "n X"), "I");
+        due("L by an interface ahead of V", run("A:D:a0", "n X"), "L");
+        due("L by the second interface ahead of V", run("A:CD:a0", "n X"), "L");
+        due("I by the first interface ahead of L by the second", run("A:BD:a0", "n X"), "I");
+        due("I by a final superclass ahead of L", run("E::a0", "n X"), "I");
+        x.flag(0, 'E', 'f', false);
+        due("L by the superclass ahead of V, and I by an interface", run("E:B:a0", "n X"), "L");
+        x.type(0, 'C', '-');
+        due("C by an interface ahead of V", run("A:C:a0", "n X"), "C");
+        due("C by the first interface ahead of L by the second", run(":CD:a0", "n X"), "C");
+        due("L by the superclass ahead of C by an interface", run("E:C:a0", "n X"), "L");
+        due("C by the superclass ahead of L by an interface", run("C:D:a0", "n X"), "C");
+    }
+
     // ---- methods that are not seen from above ----
 
     private static void notSeen() {
@@ -353,6 +389,8 @@ public final class LinksTest extends HouseTest {
         fieldsFromFar();
         interfacesOwn();
         barredFromFar();
+        chainEndsAtInterface();
+        faultsOfLoading();
         notSeen();
         pairsInOrder();
         lastTypes();
